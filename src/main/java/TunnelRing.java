@@ -29,6 +29,7 @@ public final class TunnelRing {
     private static final int MAX_AHEAD = 4;
     private static final int RINGS_PER_LINE = 10;
     private static final int NO_RING = -1;
+    private static final int GREATEST_INT = 2147483647;
     private static final char NO_REASON = '-';
 
     /** What a taper of 1 changes the headings by, in the positions 0 to 7. */
@@ -91,12 +92,12 @@ public final class TunnelRing {
 
     public int needAt(int ring) throws IndexOutOfBoundsException {
         checkGround(ring);
-        return ground.need[ring];
+        return ground.needOf(ring);
     }
 
     public int weaknessAt(int ring) throws IndexOutOfBoundsException {
         checkGround(ring);
-        return ground.weakness[ring];
+        return ground.weaknessOf(ring);
     }
 
     public int addHouse(int first, int last, int limit, int rate)
@@ -303,7 +304,7 @@ public final class TunnelRing {
         prepareSearch(stack, 1);
         int before = tube.lastPosition();
         int best = 0;
-        int least = Integer.MAX_VALUE;
+        int least = GREATEST_INT;
         for (int position = 0; position < TO_SIDE.length; position++) {
             if (fits(before, position)) {
                 int deviation = search.deviationIn(position);
@@ -340,7 +341,7 @@ public final class TunnelRing {
 
     public int sinkingAt(int ring) throws IndexOutOfBoundsException {
         checkGround(ring);
-        return ground.sinking[ring];
+        return ground.sinkingOver(ring);
     }
 
     public int sinkingOf(int house) throws IndexOutOfBoundsException {
@@ -400,7 +401,7 @@ public final class TunnelRing {
         }
         int sum = 0;
         for (int ring = 0; ring < tube.laid; ring++) {
-            sum += ground.sinking[ring];
+            sum += ground.sinkingOver(ring);
         }
         return (double) sum / (double) tube.laid;
     }
@@ -517,22 +518,20 @@ public final class TunnelRing {
     }
 
     private int slurryTaken(int ring) {
-        int beyond = Math.max(0, pressure - (ground.need[ring] + FREE_PRESSURE));
-        return SLURRY_PER_RING + ground.weakness[ring] + beyond;
+        int beyond = Math.max(0, pressure - (ground.needOf(ring) + FREE_PRESSURE));
+        return SLURRY_PER_RING + ground.weaknessOf(ring) + beyond;
     }
 
     private void sinkWhileLaying(int ring) {
-        int fall = ground.missing(ring, pressure) * ground.weakness[ring] / LAYING_DIVISOR;
+        int fall = ground.missing(ring, pressure) * ground.weaknessOf(ring) / LAYING_DIVISOR;
         ground.sink(ring, fall);
         ground.sink(ring - 1, fall / 2);
         ground.sink(ring + 1, fall / 2);
     }
 
     private void sinkWhileStanding(int ring, int hours) {
-        if (ground.isKnown(ring)) {
-            int hourly = ground.missing(ring, pressure) * ground.weakness[ring] / STANDING_DIVISOR;
-            ground.sink(ring, hourly * hours);
-        }
+        int hourly = ground.missing(ring, pressure) * ground.weaknessOf(ring) / STANDING_DIVISOR;
+        ground.sink(ring, hourly * hours);
     }
 
     // ---- following the line and the plan
@@ -598,15 +597,15 @@ public final class TunnelRing {
     private int greatestSinking(int house) {
         int greatest = 0;
         for (int ring = houses.first[house]; ring <= houses.last[house]; ring++) {
-            greatest = Math.max(greatest, ground.sinking[ring]);
+            greatest = Math.max(greatest, ground.sinkingOver(ring));
         }
         return greatest;
     }
 
     private int leastSinking(int house) {
-        int least = Integer.MAX_VALUE;
+        int least = GREATEST_INT;
         for (int ring = houses.first[house]; ring <= houses.last[house]; ring++) {
-            least = Math.min(least, ground.sinking[ring]);
+            least = Math.min(least, ground.sinkingOver(ring));
         }
         return least;
     }
@@ -636,8 +635,20 @@ public final class TunnelRing {
             known = end;
         }
 
+        int needOf(int ring) {
+            return isKnown(ring) ? need[ring] : 0;
+        }
+
+        int weaknessOf(int ring) {
+            return isKnown(ring) ? weakness[ring] : 0;
+        }
+
+        int sinkingOver(int ring) {
+            return isKnown(ring) ? sinking[ring] : 0;
+        }
+
         int missing(int ring, int pressure) {
-            return Math.max(0, need[ring] - pressure);
+            return Math.max(0, needOf(ring) - pressure);
         }
 
         void sink(int ring, int fall) {
@@ -797,12 +808,14 @@ public final class TunnelRing {
         }
 
         void append(int newPosition, int newTaper) {
-            end.addRing(newPosition, newTaper);
-            position[laid] = newPosition;
-            taper[laid] = newTaper;
-            keptX[laid] = end.x;
-            keptY[laid] = end.y;
-            laid++;
+            if (laid < MAX_RINGS) {
+                end.addRing(newPosition, newTaper);
+                position[laid] = newPosition;
+                taper[laid] = newTaper;
+                keptX[laid] = end.x;
+                keptY[laid] = end.y;
+                laid++;
+            }
         }
     }
 
@@ -822,7 +835,7 @@ public final class TunnelRing {
             gap.headingX = line.headingX - planned.headingX;
             gap.headingY = line.headingY - planned.headingY;
             rings = 0;
-            least = Integer.MAX_VALUE;
+            least = GREATEST_INT;
         }
 
         void add(int ringTaper, int ringBendX, int ringBendY) {

@@ -43,6 +43,8 @@ public final class LineTest {
             Check.same("28 yAnew", t.yAnew(ring), y[ring]);
         }
         Check.same("22 ringCount", t.ringCount(), 3);
+        Check.same("28 yAnew alone", laid().yAnew(1), 11);
+        Check.same("27 xAnew alone", laid().xAnew(1), 13);
     }
 
     private static void everyPosition() {
@@ -119,6 +121,10 @@ public final class LineTest {
         Check.same("31 the lowest that fits", t.bestPosition(0), 0);
         t.lay(0, 0);
         Check.same("31 neither same nor opposite", t.bestPosition(0), 1);
+        TunnelRing single = new TunnelRing();
+        single.addCurve(1, -5, 0);
+        single.cast(2, 9);
+        Check.same("31 a single ring, no ground, not cured", single.bestPosition(2), 6);
         Check.refuses("31 empty", NoSuchElementException.class, TunnelRing::new,
                 x -> x.bestPosition(2));
         for (int bad : NO_STACK) {
@@ -141,7 +147,29 @@ public final class LineTest {
         t.lay(1, 3);
         Check.same("32 fits to the ring before", t.leastDeviation(1, 1), 9);
         Check.same("33 fits to the ring before", t.leastByTrying(1, 1), 9);
+        leastUpward();
         leastRefused();
+    }
+
+    /** Each ring would best go straight upward, but two one behind the other do not fit. */
+    private static void leastUpward() {
+        int[] due = {3, 8, 14, 20};
+        for (int count = 1; count <= 4; count++) {
+            Check.same("32 upward " + count, upward().leastDeviation(1, count), due[count - 1]);
+            Check.same("33 upward " + count, upward().leastByTrying(1, count), due[count - 1]);
+        }
+        TunnelRing t = Tunnels.ready(6, 0, 0);
+        t.lay(2, 0);
+        Check.same("33 behind a ring", t.leastByTrying(2, 1), 12);
+        Check.same("32 behind a ring", t.leastDeviation(2, 2), 10);
+        Check.same("32 one ring behind a ring", t.leastDeviation(2, 1), 12);
+        Check.same("33 two rings behind a ring", t.leastByTrying(2, 2), 10);
+    }
+
+    private static TunnelRing upward() {
+        TunnelRing t = Tunnels.ready(6, 0, 0);
+        t.addCurve(6, 0, 4);
+        return t;
     }
 
     private static void leastRefused() {

@@ -230,6 +230,10 @@ public final class MachineTest {
         t.setPressure(57);
         t.stop(10);
         Check.same("20 enough pressure", t.sinkingAt(0), 10);
+        TunnelRing whole = Tunnels.ready(1, 60, 5);
+        whole.setPressure(50);
+        whole.stop(1);
+        Check.same("20 divided by 50", whole.sinkingAt(0), 1);
         t.lay(0, 0);
         t.setPressure(0);
         t.stop(3);

@@ -109,6 +109,24 @@ public final class SinkingTest {
         Check.same("39 not the other one", t.paidTo(2), 0);
         Check.same("40 all", t.paidTotal(), 144L + 700L);
         claimsAtTheLimit();
+        eightHouses();
+    }
+
+    private static void eightHouses() {
+        TunnelRing t = Tunnels.ready(8, 50, 10);
+        for (int house = 0; house < 8; house++) {
+            t.addHouse(house, house, 0, 1);
+        }
+        t.setPressure(30);
+        t.stop(1);
+        t.lay(0, 0);
+        t.lay(0, 1);
+        Check.same("41 of eight houses", t.worstHouse(), 0);
+        Check.same("38 of eight houses", t.claim(0), 4 + 20 + 10);
+        Check.same("38 of eight houses", t.claim(1), 10 + 20);
+        Check.same("40 eight houses", t.paidTotal(), 64L);
+        Check.same("39 the eighth house", t.paidTo(7), 0);
+        Check.same("35 the eighth house", t.sinkingOf(7), 0);
     }
 
     private static void claimsAtTheLimit() {

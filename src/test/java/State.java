@@ -1,4 +1,5 @@
 import java.util.function.IntFunction;
+import java.util.function.Supplier;
 
 /** What a small tunnel tells of itself, as a text. It is asked few times: 512 calls are promised. */
 final class State {
@@ -18,7 +19,7 @@ final class State {
         s.append(" rings ").append(until(t::positionOf)).append(until(t::taperOf));
         s.append(until(t::xAfter)).append(until(t::yAfter)).append(until(t::deviationAfter));
         s.append(" line ").append(until(t::lineAt));
-        s.append(" takes ").append(until(none -> none == 0 ? t.slurryFor() : end()));
+        s.append(" takes ").append(answer(t::slurryFor));
         s.append(" reason ").append(t.reasonFor(0, 2));
         int pressure = t.setPressure(0);
         int tolerance = t.setTolerance(0);
@@ -27,8 +28,12 @@ final class State {
         return s.append(" set ").append(pressure).append(' ').append(tolerance).toString();
     }
 
-    private static Object end() {
-        throw new IndexOutOfBoundsException();
+    private static String answer(Supplier<Object> ask) {
+        try {
+            return ask.get().toString();
+        } catch (RuntimeException e) {
+            return e.getClass().getSimpleName();
+        }
     }
 
     private static String until(IntFunction<Object> ask) {
