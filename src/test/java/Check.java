@@ -17,13 +17,13 @@ final class Check {
         }
     }
 
-    /** The call throws just this exception, and the object then tells what it told before. */
+    /** The call throws just this exception, and all answers afterwards are as if it was not made. */
     static void refuses(String what, Class<? extends RuntimeException> due,
             Supplier<TunnelRing> maker, Consumer<TunnelRing> call) {
         TunnelRing tunnel = maker.get();
-        String before = State.of(tunnel);
         same(what, thrownBy(() -> call.accept(tunnel)), due.getSimpleName());
-        same("the state after " + what, State.of(tunnel), before);
+        same("afterwards, " + what,
+                Afterwards.difference(new Driven(tunnel), new Driven(maker.get())), "");
     }
 
     static String thrownBy(Runnable call) {

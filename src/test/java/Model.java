@@ -5,7 +5,7 @@ import java.util.List;
  * The document once more, written another way: nothing is kept that can be found anew, hours pass
  * one by one, and an answer is a text. What a call throws is answered as "throws.X".
  */
-final class Model {
+final class Model implements Asked {
     private static final int[][] NUMBERS = {{0, 1}, {1, 1}, {1, 0}, {1, -1}, {0, -1}, {-1, -1},
         {-1, 0}, {-1, 1}};
 
@@ -22,7 +22,8 @@ final class Model {
     private int clock = 0;
     private String line = "";
 
-    String call(String name, int[] a) {
+    @Override
+    public String call(String name, int... a) {
         switch (name) {
             case "addGround": return addGround(a[0], a[1], a[2]);
             case "addCurve": return addCurve(a[0], a[1], a[2]);

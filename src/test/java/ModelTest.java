@@ -1,7 +1,7 @@
 /** Long runs of calls, each compared with the model. */
 public final class ModelTest {
     private static final int RUNS = 240;
-    private static final String[] FACE = Pair.face();
+    private static final String[] FACE = Driven.face();
     private static final String[] DRIVING = {"cast", "cast", "lay", "lay", "lay", "lay", "stop",
         "addSlurry", "addGround", "bestPosition", "reasonFor"};
     private static final int[] EDGES = {-1, Integer.MAX_VALUE, Integer.MIN_VALUE, 200, 201, 101};
@@ -32,7 +32,7 @@ public final class ModelTest {
     /** Some runs mostly drive, others call anything. */
     private int rings() {
         int driving = run % 4 * 30;
-        while (pair.calls < Pair.CALLS) {
+        while (pair.calls() < Driven.CALLS) {
             String name = next(100) < driving ? DRIVING[next(DRIVING.length)]
                     : FACE[next(FACE.length)];
             int[] arguments = usual(name);
@@ -120,7 +120,7 @@ public final class ModelTest {
         pair.ask("addHouse", 150, 199, 3, 2);
         pair.ask("addHouse", 0, 10, 3, 2);
         pair.ask("setTolerance", 9999);
-        while (pair.model.rings() < 200 && pair.calls < Pair.CALLS) {
+        while (pair.model.rings() < 200 && pair.calls() < Driven.CALLS) {
             layTwelve(pair, numbers);
         }
         Check.same("rings of the whole tunnel", pair.model.rings(), 200);
@@ -169,6 +169,6 @@ public final class ModelTest {
         pair.ask("slurryFor");
         pair.ask("stop", 100);
         pair.ask("sinkingAt", 199);
-        Check.same("calls that are promised", pair.calls <= Pair.CALLS, true);
+        Check.same("calls that are promised", pair.calls() <= Driven.CALLS, true);
     }
 }
