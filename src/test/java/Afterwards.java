@@ -8,20 +8,18 @@ final class Afterwards {
     private Afterwards() {
     }
 
-    /** The first call that both answer differently, or an empty text. */
-    static String difference(Asked one, Asked other) {
+    /** The first call that one answers differently from one of the others, or an empty text. */
+    static String difference(Asked one, Asked... others) {
         for (String call : CALLS) {
             String answer = Script.ask(one, call);
-            String due = Script.ask(other, call);
-            if (!answer.equals(due)) {
-                return call + " answered " + answer + ", due is " + due;
+            for (Asked other : others) {
+                String due = Script.ask(other, call);
+                if (!answer.equals(due)) {
+                    return call + " answered " + answer + ", due is " + due;
+                }
             }
         }
         return "";
-    }
-
-    static int count() {
-        return CALLS.size();
     }
 
     private static List<String> calls() {

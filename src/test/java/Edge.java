@@ -1,7 +1,8 @@
 /**
  * A boundary case, told as text: the calls that come before, then a call and the answer that is
- * due. The model has to answer so too. Where the call is refused, all answers afterwards have to
- * be those of a tunnel of which the call was never asked.
+ * due. The model has to answer so too, and afterwards both have to go on alike. Where the call is
+ * refused, all answers afterwards have to be those of a tunnel of which it was never asked, too;
+ * the model stays beside it because a look that is refused could hide the same fault in both.
  */
 final class Edge {
     static final String INDEX = "throws.IndexOutOfBoundsException";
@@ -21,10 +22,10 @@ final class Edge {
         Check.same(title, Script.ask(tunnel, call), due);
         Model model = Script.played(new Model(), before);
         Check.same(title + ", in the model", Script.ask(model, call), due);
-        if (due.startsWith("throws.")) {
-            Driven untouched = Script.played(new Driven(), before);
-            Check.same("afterwards, " + title, Afterwards.difference(tunnel, untouched), "");
-        }
+        String difference = due.startsWith("throws.")
+                ? Afterwards.difference(tunnel, Script.played(new Driven(), before), model)
+                : Afterwards.difference(tunnel, model);
+        Check.same("afterwards, " + title, difference, "");
     }
 
     /** A call whose changing argument is written as "#". */

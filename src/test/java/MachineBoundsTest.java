@@ -110,6 +110,8 @@ public final class MachineBoundsTest {
         Edge.due("21 hour 5000", Ready.late(4998) + "; lay 0 0", "clock", 5000);
         Edge.due("19 an hour before", Ready.late(4997), "lay 0 0", 0);
         Edge.due("19 hour 5001", Ready.late(4999), "lay 0 0", Edge.STATE);
+        Edge.due("19 hour 5001, weak ground", Ready.late(4999) + "; setPressure 0", "lay 0 0",
+                Edge.STATE);
         Edge.due("19 hour 5002", Ready.late(5000), "lay 0 0", Edge.STATE);
         Edge.due("19 hour 5002, behind a ring", Ready.late(4998) + "; lay 0 0", "lay 1 1",
                 Edge.STATE);

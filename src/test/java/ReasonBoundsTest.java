@@ -16,6 +16,7 @@ public final class ReasonBoundsTest {
         slurryThatJustDoes();
         toleranceAtFirst();
         toleranceThatJustDoes();
+        toleranceAtMost();
         Check.end();
     }
 
@@ -162,5 +163,26 @@ public final class ReasonBoundsTest {
         none(ready + "12", 2, 5);
         against('t', ready + "4; addCurve 1 -2 3", 0, 0);
         none(ready + "5; addCurve 1 -2 3", 0, 0);
+    }
+
+    /** The plan leads 10080 to the side in 63 rings; 62 rings are laid, 80 of it go along with it. */
+    private static void toleranceAtMost() {
+        String far = far() + "; cast 1 0; cast 2 1; stop 24";
+        Edge.due("30 just 9999", far, "deviationWith 2 2", 9999);
+        Edge.due("30 just 10000", far, "deviationWith 1 2", 10000);
+        none(far, 2, 2);
+        against('t', far, 1, 2);
+        against('t', far + "; setTolerance 9998", 2, 2);
+    }
+
+    private static String far() {
+        StringBuilder calls = new StringBuilder("addGround 50 0 0 *2; addCurve 50 5 0 *2;"
+                + "setPressure 0; setTolerance 9999; addSlurry 500 *2");
+        for (int ring = 0; ring < 62; ring++) {
+            boolean bends = ring == 0 || ring == 46;
+            calls.append("; cast 0 ").append(bends ? 1 : 0).append("; stop 24; lay 0 ");
+            calls.append(bends ? 2 : ring % 2);
+        }
+        return calls.toString();
     }
 }

@@ -40,6 +40,7 @@ public final class StackBoundsTest {
                     Edge.ARGUMENT);
             Edge.due("7 other stacks have room", twelve, "cast " + (stack + 1) % 3 + " 2", 1);
         }
+        Edge.due("7 the twelfth keeps its hour", FULL + "; stop 5", "cast 1 2", Edge.STATE);
         Edge.outside("7 stack before room", FULL, "cast # 2", 0, 2, Edge.INDEX);
         Edge.due("7 room anew", FULL + "; restack 1 0", "cast 1 2", 12);
         Edge.due("7 room anew, behind laying", FULL + "; addGround 1 0 0; stop 24; addSlurry 40;"
@@ -111,6 +112,7 @@ public final class StackBoundsTest {
         Edge.due("11 both are full", "cast 0 5 *12; cast 1 6 *12", "restack 0 1", Edge.STATE);
         Edge.due("11 onto the same full one", twelve, "restack 1 1", 12);
         Edge.due("11 the same full one stays", FULL + "; restack 1 1", "taperAt 1 11", 6);
+        Edge.due("11 both keep their hours", twelve + "; stop 5", "restack 0 1", Edge.STATE);
         Edge.due("11 from a full one", twelve, "restack 1 0", 2);
         Edge.due("11 the last stack is full", "cast 2 6 *12; cast 0 5", "restack 0 2", Edge.STATE);
     }
